@@ -654,6 +654,9 @@ public final class GateSums {
         private static final int[] OF_X = {-1, 0, 1, 1, 0, -1, -1, 1};
         private static final int[] OF_Y = {0, 0, 1, 1, 0, -1, -1, 0};
         private static final int[] OF_BOTH = {0, 1, -1, -2, -1, 1, 2, -1};
+        /** By KIND of TASK: how often A and B count, beside A times a number. */
+        private static final int[] TASK_OF_A = {1, 0, 0, 3};
+        private static final int[] TASK_OF_B = {1, 0, 1, -1};
 
         final int[] sizes = new int[MOST_GATES + 1];
         final int[] sets = new int[(MOST_GATES + 1) * MOST_TERMS];
@@ -673,7 +676,7 @@ public final class GateSums {
                 work.size = 0;
                 if (stage == 0) {
                     addOutputs(circuit);
-                    addTask(circuit);
+                    takeTask(circuit);
                 } else {
                     replaceGate(circuit, stage - 1, circuit.gates - stage);
                 }
@@ -701,40 +704,18 @@ public final class GateSums {
             }
         }
 
-        private void addTask(Circuit circuit) {
+        private void takeTask(Circuit circuit) {
             int p = circuit.p;
-            int q = circuit.q;
-            switch (circuit.task) {
-                case SUM:
-                    addNumber(0, p, -1);
-                    addNumber(p, q, -1);
-                    break;
-                case PRODUCT:
-                    takeProduct(p, p, q);
-                    break;
-                case SQUARE:
-                    takeProduct(p, 0, p);
-                    addNumber(p, q, -1);
-                    break;
-                default:
-                    addNumber(0, p, -3);
-                    addNumber(p, q, 1);
-                    break;
-            }
-        }
-
-        private void addNumber(int from, int bits, int times) {
-            for (int i = 0; i < bits; i++) {
-                work.add(setOf(from + i), times * (1 << i));
-            }
-        }
-
-        /** A times the number that is told by some INPUTS from one on, taken away. */
-        private void takeProduct(int p, int from, int bits) {
+            int timesFrom = circuit.task == PRODUCT ? p : 0;
+            int timesBits = circuit.task == PRODUCT ? circuit.q : circuit.task == SQUARE ? p : 0;
             for (int i = 0; i < p; i++) {
-                for (int j = 0; j < bits; j++) {
-                    work.add(setOf(i) | setOf(from + j), -(1 << i + j));
+                work.add(setOf(i), -at(TASK_OF_A, circuit.task) * (1 << i));
+                for (int j = 0; j < timesBits; j++) {
+                    work.add(setOf(i) | setOf(timesFrom + j), -(1 << i + j));
                 }
+            }
+            for (int i = 0; i < circuit.q; i++) {
+                work.add(setOf(p + i), -at(TASK_OF_B, circuit.task) * (1 << i));
             }
         }
 
@@ -897,10 +878,11 @@ public final class GateSums {
         }
 
         private boolean readGate(Circuit draft) {
-            int kind = takeGateKind();
+            int kind = gateKind();
             if (kind == NONE) {
                 return false;
             }
+            advance();
             int last = draft.signals() - 1;
             int x = takeNumber(0, last);
             if (x == NONE) {
@@ -933,10 +915,11 @@ public final class GateSums {
             if (!takeWord("task")) {
                 return false;
             }
-            int kind = takeTaskKind();
+            int kind = taskKind();
             if (kind == NONE) {
                 return false;
             }
+            advance();
             int p = takeNumber(1, draft.inputs);
             if (p == NONE) {
                 return false;
@@ -949,18 +932,18 @@ public final class GateSums {
             return takeSemicolon();
         }
 
-        private int takeGateKind() {
+        private int gateKind() {
             for (int kind = 0; kind < GATE_KINDS; kind++) {
-                if (takeWord(gateWord(kind))) {
+                if (isWord(gateWord(kind))) {
                     return kind;
                 }
             }
             return NONE;
         }
 
-        private int takeTaskKind() {
+        private int taskKind() {
             for (int kind = 0; kind < TASK_KINDS; kind++) {
-                if (takeWord(taskWord(kind))) {
+                if (isWord(taskWord(kind))) {
                     return kind;
                 }
             }
@@ -1001,8 +984,7 @@ public final class GateSums {
             }
         }
 
-        /** Takes nothing, if another word stands there, so that it can be looked at again. */
-        private boolean takeWord(String word) {
+        private boolean isWord(String word) {
             if (sort != AT_WORD || to - from != word.length()) {
                 return false;
             }
@@ -1010,6 +992,14 @@ public final class GateSums {
                 if (text.byteAt(from + i) != word.charAt(i)) {
                     return false;
                 }
+            }
+            return true;
+        }
+
+        /** Takes nothing, if it does not stand there: then what stands there is the FAULT. */
+        private boolean takeWord(String word) {
+            if (!isWord(word)) {
+                return false;
             }
             advance();
             return true;

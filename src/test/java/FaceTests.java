@@ -12,7 +12,7 @@ import java.util.TreeSet;
 import java.util.regex.Matcher;
 import java.util.regex.Pattern;
 
-/** The class has the document's face and no other, and its source keeps to the rules of LANGUAGE.md that can be seen. */
+/** The class has the document's face and no other; its source keeps to those rules of LANGUAGE.md that can be seen. */
 public final class FaceTests {
     private static final String[] FACE = {
         "int type(int)", "int clear()", "int reads()", "int kind(int,int)", "int wire(int,int,int)", "int of(int,int)",
@@ -110,7 +110,8 @@ public final class FaceTests {
         }
         yes("no lambda, no method reference", !code.contains("->") && !code.contains("::"));
         for (String line : code.split("\n")) {
-            yes("objects are made in field initialisers alone: " + line, !line.contains("new ") || line.contains(" final "));
+            boolean made = line.contains("new ");
+            yes("objects are made in field initialisers alone: " + line, !made || line.contains(" final "));
         }
         longestMethod(code);
     }

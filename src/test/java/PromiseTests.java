@@ -129,6 +129,17 @@ public final class PromiseTests {
         fault(" in1in", 4);
         fault("In 1;", 0);
         fault("inX 1;", 0);
+        fault("inA 1;", 0);
+        fault("inZ 1;", 0);
+        fault("inz 1;", 0);
+        fault("in@1;", 2);
+        fault("in[1;", 2);
+        fault("in`1;", 2);
+        fault("in{1;", 2);
+        fault("in:1;", 2);
+        fault("in/1;", 2);
+        fault("in 1,out 0;", 4);
+        fault("in 1:out 0;", 4);
         fault("in 0;", 3);
         fault("in 7;", 3);
         fault("in 001;", 3);
@@ -284,7 +295,8 @@ public final class PromiseTests {
     private void promise10Draw() {
         GateSums sums = new GateSums();
         due.is("draw(0, 2, 3)", sums.draw(0, 2, 3), 3);
-        // X: 12345, then 1406932606, then 654583775; by 65536, 1024, 32768: 0 12 0, 21468 1373957 42936, 9988 639241 19976.
+        // X is 12345, then 1406932606, then 654583775;
+        // by 65536, 1024, 32768 that is 0 12 0, then 21468 1373957 42936, then 9988 639241 19976.
         int[][] gates = {{0, 0, NONE}, {4, 2, 0}, {4, 1, 0}};
         for (int g = 0; g < gates.length; g++) {
             for (int what = 0; what < 3; what++) {
@@ -297,6 +309,10 @@ public final class PromiseTests {
         due.is("TASK", sums.told(1, 0), 0);
         due.is("p", sums.told(2, 0), 1);
         due.is("q", sums.told(3, 0), 0);
+        for (int n = 1; n <= 6; n++) {
+            drawIs(sums, 123456 * n, n, 12);
+            drawIs(sums, n - 1, n, 2);
+        }
         due.is("of one GATE", sums.draw(999999, 6, 1), 1);
         due.is("its OUTPUTS", sums.count(6), 1);
         due.is("its OUTPUT", sums.told(0, 0), 6);
@@ -308,6 +324,21 @@ public final class PromiseTests {
         due.is("draw(0, 1, 0)", sums.draw(0, 1, 0), BAD);
         due.is("draw(0, 1, 13)", sums.draw(0, 1, 13), BAD);
         due.is("the former one stays, but for six refusals", sums.digest() != before ? sums.told(0, 0) : 0, 6);
+    }
+
+    private void drawIs(GateSums sums, int seed, int n, int g) {
+        due.is("draw(" + seed + ", " + n + ", " + g + ")", sums.draw(seed, n, g), g);
+        long x = seed;
+        for (int i = 0; i < g; i++) {
+            x = (x * 1103515245L + 12345) % 2147483648L;
+            long kind = x / 65536 % 8;
+            due.is("drawn KIND " + i, sums.of(i, 0), kind);
+            due.is("drawn x " + i, sums.of(i, 1), x / 1024 % (n + i));
+            due.is("drawn y " + i, sums.of(i, 2), kind == 0 ? NONE : x / 32768 % (n + i));
+        }
+        due.is("its INPUTS", sums.count(4), n);
+        due.is("its OUTPUTS", sums.count(6), 2);
+        due.is("its last OUTPUT", sums.told(0, 1), n + g - 2);
     }
 
     private void promise11Runs() {
@@ -487,11 +518,14 @@ public final class PromiseTests {
         due.is("most(2)", sums.most(2), -3);
         due.is("most(3)", sums.most(3), BAD);
         due.is("most(-1)", sums.most(-1), BAD);
+        due.is("no TERMS at all", Due.circuit("in 1;out 0;task sum 1 0;").most(0), 0);
         sums.adder(2);
         due.is("most(0), one between", sums.most(0), 9);
         due.is("no TERMS, most(1)", sums.most(1), 0);
         due.is("no TERMS, most(2)", sums.most(2), 0);
-        due.is("the TERM of no SIGNALS alone", Due.circuit("in 1;g nand 0 0;g or 0 1;out 2;task product 1 0;").most(1), 0);
+        GateSums one = Due.circuit("in 1;g nand 0 0;g or 0 1;out 2;task product 1 0;");
+        due.is("the TERM of no SIGNALS alone, most(1)", one.most(1), 0);
+        due.is("the TERM of no SIGNALS alone, most(2)", one.most(2), 1);
         due.is("40 TERMS", Due.circuit(FORTY_TERMS).most(0), 40);
         for (int what = 0; what < 3; what++) {
             due.is("FULL, most(" + what + ")", Due.circuit(XOR_OF_SIX).most(what), FULL);
@@ -651,8 +685,8 @@ public final class PromiseTests {
     private void refusalsWithoutCircuit() {
         GateSums sums = new GateSums();
         int[] noes = {
-            sums.kind(11, 7), sums.kind(0, 0), sums.wire(11, 1, 17), sums.wire(0, 0, 17), sums.of(11, 3), sums.told(0, 6),
-            sums.told(3, 0), sums.runs(63, 1), sums.signal(17, 63), sums.wrong(1), sums.cures(11), sums.right(),
+            sums.kind(11, 7), sums.kind(0, 0), sums.wire(11, 1, 17), sums.wire(0, 0, 17), sums.of(11, 3),
+            sums.told(0, 6), sums.told(3, 0), sums.runs(63, 1), sums.signal(17, 63), sums.wrong(1), sums.cures(11), sums.right(),
             sums.terms(12), sums.term(12, Integer.MAX_VALUE, 1), sums.most(2), sums.dearest(12, 99), sums.value(12, 63),
             sums.stands(12), sums.witness(),
         };
