@@ -687,8 +687,8 @@ public final class PromiseTests {
         int[] noes = {
             sums.kind(11, 7), sums.kind(0, 0), sums.wire(11, 1, 17), sums.wire(0, 0, 17), sums.of(11, 3),
             sums.told(0, 6), sums.told(3, 0), sums.runs(63, 1), sums.signal(17, 63), sums.wrong(1), sums.cures(11),
-            sums.right(), sums.terms(12), sums.term(12, Integer.MAX_VALUE, 1), sums.most(2), sums.dearest(12, 99), sums.value(12, 63),
-            sums.stands(12), sums.witness(),
+            sums.right(), sums.terms(12), sums.term(12, Integer.MAX_VALUE, 1), sums.most(2), sums.dearest(12, 99),
+            sums.value(12, 63), sums.stands(12), sums.witness(),
         };
         for (int i = 0; i < noes.length; i++) {
             due.is("call " + i + " without a circuit", noes[i], NO);
