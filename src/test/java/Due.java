@@ -2,12 +2,26 @@
 final class Due {
     private int checks;
     private int wrong;
+    private String sentence = "";
+
+    /** The document's words that the answers from here on stand for. */
+    void sentence(String words) {
+        sentence = words;
+    }
 
     void is(String call, long got, long want) {
         checks++;
         if (got != want) {
             wrong++;
-            System.out.println(call + " answered " + got + ", due is " + want);
+            String head = sentence.isEmpty() ? "" : "[" + sentence + "] ";
+            System.out.println(head + call + " answered " + got + ", due is " + want);
+        }
+    }
+
+    void are(String call, long[] got, long... want) {
+        is(call + ", how many", got.length, want.length);
+        for (int i = 0; i < got.length && i < want.length; i++) {
+            is(call + ", place " + i, got[i], want[i]);
         }
     }
 
@@ -27,6 +41,18 @@ final class Due {
             throw new IllegalStateException(text + " has a fault: " + gates);
         }
         sums.clear();
+        return sums;
+    }
+
+    static GateSums drawn(int seed, int n, int g) {
+        GateSums sums = new GateSums();
+        sums.draw(seed, n, g);
+        return sums;
+    }
+
+    static GateSums adding(int b) {
+        GateSums sums = new GateSums();
+        sums.adder(b);
         return sums;
     }
 

@@ -310,8 +310,8 @@ public final class PromiseTests {
         due.is("p", sums.told(2, 0), 1);
         due.is("q", sums.told(3, 0), 0);
         for (int n = 1; n <= 6; n++) {
-            drawIs(sums, 123456 * n, n, 12);
-            drawIs(sums, n - 1, n, 2);
+            drawIs(123456 * n, n, 12);
+            drawIs(n - 1, n, 2);
         }
         due.is("of one GATE", sums.draw(999999, 6, 1), 1);
         due.is("its OUTPUTS", sums.count(6), 1);
@@ -326,7 +326,8 @@ public final class PromiseTests {
         due.is("the former one stays, but for six refusals", sums.digest() != before ? sums.told(0, 0) : 0, 6);
     }
 
-    private void drawIs(GateSums sums, int seed, int n, int g) {
+    private void drawIs(int seed, int n, int g) {
+        GateSums sums = new GateSums();
         due.is("draw(" + seed + ", " + n + ", " + g + ")", sums.draw(seed, n, g), g);
         long x = seed;
         for (int i = 0; i < g; i++) {
@@ -593,10 +594,10 @@ public final class PromiseTests {
         due.is("FULL", Due.circuit(XOR_OF_SIX).witness(), FULL);
         due.is("FULL between", Due.circuit(FULL_BETWEEN).witness(), FULL);
         for (int seed = 0; seed < 300; seed++) {
-            sums.draw(seed, 1 + seed % 6, 1 + seed % 12);
-            int v = sums.witness();
+            GateSums drawn = Due.drawn(seed, 1 + seed % 6, 1 + seed % 12);
+            int v = drawn.witness();
             if (v != FULL) {
-                boolean fits = v == NONE ? sums.wrong(1) == 0 : sums.runs(v, 0) != sums.runs(v, 1);
+                boolean fits = v == NONE ? drawn.wrong(1) == 0 : drawn.runs(v, 0) != drawn.runs(v, 1);
                 due.is("the witness of draw " + seed + " is wrong", fits ? 1 : 0, 1);
             }
         }
