@@ -26,6 +26,7 @@ public final class CircuitEdgeTests {
         wireKeepsNotWithoutY();
         ofTellsAGate();
         ofCountsUses();
+        usesOfTheFormerOne();
         toldTellsOutputsAndTask();
         adderIsAsTold();
         adderReplaces();
@@ -79,7 +80,8 @@ public final class CircuitEdgeTests {
         due.sentence("0 NOT (of x), 1 AND, 2 OR, 3 XOR, 4 NAND, 5 NOR, 6 XNOR, 7 BUT (x and not y)");
         // For x y = 0 0, 1 0, 0 1, 1 1: INPUT 0 is x.
         int[][] truth = {
-            {1, 0, 1, 0}, {0, 0, 0, 1}, {0, 1, 1, 1}, {0, 1, 1, 0}, {1, 1, 1, 0}, {1, 0, 0, 0}, {1, 0, 0, 1}, {0, 1, 0, 0},
+            {1, 0, 1, 0}, {0, 0, 0, 1}, {0, 1, 1, 1}, {0, 1, 1, 0},
+            {1, 1, 1, 0}, {1, 0, 0, 0}, {1, 0, 0, 1}, {0, 1, 0, 0},
         };
         GateSums sums = Due.circuit("in 2;g and 0 1;g and 0 0;g and 1 0;g not 0;out 2;task sum 1 1;");
         for (int kind = AND; kind <= BUT; kind++) {
@@ -114,7 +116,7 @@ public final class CircuitEdgeTests {
     }
 
     private void tasksTellNumbers() {
-        due.sentence("0 SUM: A and B. 1 PRODUCT: A times B. 2 SQUARE: A times A, and B. 3 TRIPLE: three times A, less B");
+        due.sentence("SUM: A and B. PRODUCT: A times B. SQUARE: A times A, and B. TRIPLE: three times A, less B");
         for (int n = 1; n <= 6; n++) {
             for (int p = 1; p <= n; p++) {
                 for (int q = 0; p + q <= n; q++) {
@@ -275,6 +277,20 @@ public final class CircuitEdgeTests {
         due.is("the last GATE nowhere", most.of(11, 3), 0);
         most.wire(5, 0, 0);
         due.is("in one fewer, wired to another", most.of(0, 3), 17);
+        GateSums row = Due.circuit("in 2;g and 0 1;g or 2 2;g xor 3 2;g not 4;g nor 4 3;out 6 4 6;task sum 1 1;");
+        int[] uses = {2, 2, 3, 0, 2};
+        for (int g = 0; g < uses.length; g++) {
+            due.is("GATE " + g, row.of(g, 3), uses[g]);
+        }
+    }
+
+    private void usesOfTheFormerOne() {
+        due.sentence("of: in how many GATES and places it stands (3), not in those of a former circuit");
+        GateSums sums = Due.circuit("in 1;g not 0;g not 1;out 0 1;task sum 1 0;");
+        due.is("in a GATE and a place", sums.of(0, 3), 2);
+        Due.type(sums, "in 1;g not 0;out 0;task sum 1 0;");
+        due.is("reads", sums.reads(), 1);
+        due.is("nowhere", sums.of(0, 3), 0);
     }
 
     private void toldTellsOutputsAndTask() {
@@ -311,7 +327,9 @@ public final class CircuitEdgeTests {
         for (int b = 1; b <= 3; b++) {
             GateSums sums = new GateSums();
             due.is("adder(" + b + ")", sums.adder(b), gates[b - 1].length);
-            due.are("counts", new long[] {sums.count(4), sums.count(5), sums.count(6)}, 2 * b, gates[b - 1].length, b + 1);
+            due.is("INPUTS", sums.count(4), 2 * b);
+            due.is("GATES", sums.count(5), gates[b - 1].length);
+            due.is("OUTPUTS", sums.count(6), b + 1);
             for (int g = 0; g < gates[b - 1].length; g++) {
                 due.are("GATE " + g, new long[] {sums.of(g, 0), sums.of(g, 1), sums.of(g, 2)},
                     gates[b - 1][g][0], gates[b - 1][g][1], gates[b - 1][g][2]);
@@ -482,7 +500,8 @@ public final class CircuitEdgeTests {
         due.is("cures(-1)", sums.cures(-1), BAD);
         due.is("none is 0 always", Due.circuit("in 2;g xor 0 1;g and 0 2;out 3 2;task product 2 0;").cures(0), 0);
         due.is("a constant", Due.circuit("in 1;g xnor 0 0;out 1;task product 1 0;").cures(0), 1 << XOR | 1 << BUT);
-        due.is("NAND, NOR of x and x", Due.circuit("in 1;g or 0 0;g not 1;out 2;task sum 1 0;").cures(0), 1 << NAND | 1 << NOR);
+        GateSums like = Due.circuit("in 1;g or 0 0;g not 1;out 2;task sum 1 0;");
+        due.is("NAND, NOR of x and x", like.cures(0), 1 << NAND | 1 << NOR);
     }
 
     private void curesOfNot() {
@@ -515,7 +534,7 @@ public final class CircuitEdgeTests {
     // ---- promises 23, 24
 
     private void countsAreAsTold() {
-        due.sentence("count: refused BAD (0), NO (1), FULL (2); bytes (3), INPUTS (4), GATES (5), OUTPUTS (6; no circuit: 0 each)");
+        due.sentence("count: refused BAD, NO, FULL; bytes, INPUTS, GATES, OUTPUTS (no circuit: 0 each). BAD");
         GateSums sums = new GateSums();
         Due.type(sums, "in 3;g not 0;out 3 3");
         sums.reads();
@@ -550,7 +569,8 @@ public final class CircuitEdgeTests {
     private void digestWraps() {
         due.sentence("digest: h = 1993; then h = 31 h + v for each v");
         due.is("of an adder", Due.adding(1).digest(), digest(0, 0, 0, 0, 2, 2, 2, 3, 0, 1, 1, 0, 1, 2, 3, 0, 1, 1, 0));
-        due.is("without GATES", Due.circuit("in 1;out 0;task sum 1 0;").digest(), digest(0, 0, 0, 0, 1, 0, 1, 0, 0, 1, 0, 0));
+        GateSums none = Due.circuit("in 1;out 0;task sum 1 0;");
+        due.is("without GATES", none.digest(), digest(0, 0, 0, 0, 1, 0, 1, 0, 0, 1, 0, 0));
         GateSums not = Due.circuit("in 2;g not 1;out 2 0 2;task triple 2 0;");
         // OUTPUTS: 5 or 0 and 2 or 0, so 5, 7, 0, 2 for v 0 .. 3; the TASK tells 0, 3, 6, 9.
         due.is("with a NOT", not.digest(), digest(0, 0, 0, 0, 2, 1, 3, 0, 1, -1, 2, 0, 2, 3, 2, 0, 4));
@@ -580,8 +600,9 @@ public final class CircuitEdgeTests {
         sums.type(' ');
         sums.adder(0);
         sums.adder(0);
-        due.is("two BAD, one byte", sums.digest(), digest(2, 0, 0, 1, 2, 2, 2, 3, 0, 1, 1, 0, 1, 2, 3, 0, 1, 1, 0));
-        due.is("it counts nothing itself", sums.digest(), digest(2, 0, 0, 1, 2, 2, 2, 3, 0, 1, 1, 0, 1, 2, 3, 0, 1, 1, 0));
+        long want = digest(2, 0, 0, 1, 2, 2, 2, 3, 0, 1, 1, 0, 1, 2, 3, 0, 1, 1, 0);
+        due.is("two BAD, one byte", sums.digest(), want);
+        due.is("it counts nothing itself", sums.digest(), want);
         sums.kind(1, OR);
         due.is("wrong for two", sums.digest(), digest(2, 0, 0, 1, 2, 2, 2, 3, 0, 1, 2, 0, 1, 2, 3, 0, 1, 1, 2));
         GateSums none = new GateSums();

@@ -1,7 +1,9 @@
 import java.lang.reflect.InvocationTargetException;
 import java.lang.reflect.Method;
+import java.util.ArrayList;
 import java.util.Arrays;
 import java.util.HashMap;
+import java.util.List;
 import java.util.Map;
 import java.util.Random;
 
@@ -13,6 +15,10 @@ public final class ModelTests {
     private static final String[] TASK_WORDS = {"sum", "product", "square", "triple"};
     private static final String[] PIECES = {
         ";", " ", "g", "in", "out", "task", "and", "not", "sum", "0", "1", "7", "18", "100", "-", "In", "\t", "nan",
+    };
+    private static final String[] PARTED = {
+        "in 2 ; g xor 0 1 ; g not 2 ; out 3 2 ; task sum 1 1 ;", "in 1 ; out 0 ; task triple 1 0 ;",
+        "in 6 ; g not 0 ; g and 6 5 ; out 0 1 2 3 4 5 7 ; task square 3 3 ;",
     };
     private static final String[] QUERIES = {
         "kind", "wire", "of", "told", "runs", "signal", "wrong", "cures", "right", "terms", "term", "most",
@@ -46,6 +52,7 @@ public final class ModelTests {
                 step();
             }
         }
+        textsWithPartsGoneOrChanged();
         due.is("kinds of answers of reads seen, at least 90", Math.min(90, readAnswers.size()), 90);
         due.end();
     }
@@ -139,6 +146,34 @@ public final class ModelTests {
             }
         }
         return changed.toString();
+    }
+
+    /** Each row of parts taken out, each part put in place of each; by objects that have read another text ahead. */
+    private void textsWithPartsGoneOrChanged() throws ReflectiveOperationException {
+        for (String text : PARTED) {
+            List<String> parts = List.of(text.split(" "));
+            for (int from = 0; from <= parts.size(); from++) {
+                for (int to = from; to <= parts.size(); to++) {
+                    readOnce(parts, from, to, "");
+                }
+                for (String piece : PIECES) {
+                    readOnce(parts, from, from, piece);
+                    readOnce(parts, from, Math.min(from + 1, parts.size()), piece);
+                }
+            }
+        }
+    }
+
+    private void readOnce(List<String> parts, int from, int to, String piece) throws ReflectiveOperationException {
+        sums = new GateSums();
+        model = new Model();
+        story = new StringBuilder();
+        typeAll("in6;g xor0 1;g but6 2;g nor7 3;out6 7 8 0 1;task sum3 3;");
+        List<String> changed = new ArrayList<>(parts.subList(0, from));
+        changed.add(piece);
+        changed.addAll(parts.subList(to, parts.size()));
+        typeAll(String.join(" ", changed));
+        both("digest");
     }
 
     private void typeAll(String text) throws ReflectiveOperationException {

@@ -31,7 +31,8 @@ public final class NumberEdgeTests {
         new Call("of", Need.CIRCUIT, false, (s, a) -> s.of(a[0], a[1]), Number.GATE, Number.OF),
         new Call("told", Need.CIRCUIT, false, (s, a) -> s.told(a[0], a[1]), Number.TOLD, Number.PLACE),
         new Call("adder", Need.NOTHING, true, (s, a) -> s.adder(a[0]), Number.BITS),
-        new Call("draw", Need.NOTHING, true, (s, a) -> s.draw(a[0], a[1], a[2]), Number.SEED, Number.SIZE, Number.GATES),
+        new Call("draw", Need.NOTHING, true, (s, a) -> s.draw(a[0], a[1], a[2]),
+            Number.SEED, Number.SIZE, Number.GATES),
         new Call("runs", Need.CIRCUIT, false, (s, a) -> s.runs(a[0], a[1]), Number.INPUTS, Number.TWO),
         new Call("signal", Need.CIRCUIT, false, (s, a) -> s.signal(a[0], a[1]), Number.SIGNAL, Number.INPUTS),
         new Call("wrong", Need.CIRCUIT, false, (s, a) -> s.wrong(a[0]), Number.TWO),
@@ -58,9 +59,10 @@ public final class NumberEdgeTests {
         Shape.told("in 4;g nor 3 2;out 4 0 1 2 3;task sum 2 2;", 4, 5, 5),
         Shape.told("in 5;g xnor 4 0;g nand 5 1;out 0 1 2 3 6 5;task triple 1 4;", 5, 6, 6, 4),
         Shape.told("in 6;g or 0 5;out 6 5 4 3 2 1 0;task square 6 0;", 6, 7, 2).filled(),
-        Shape.told("in6;" + "g not0;".repeat(11) + "g or0 16;out17;task sum1 0;", 6, 1, 0, 0, 0, 0, 0, 0, 0, 0, 0, 0, 0, 2)
-            .filled(),
-        Shape.told("in6;g xor0 1;g xor6 2;g xor7 3;g xor8 4;g xor9 5;out10;task sum1 0;", 6, 1, 3, 3, 3, 3, 3).fullFrom(5),
+        Shape.told("in6;" + "g not0;".repeat(11) + "g or0 16;out17;task sum1 0;", 6, 1,
+            0, 0, 0, 0, 0, 0, 0, 0, 0, 0, 0, 2).filled(),
+        Shape.told("in6;g xor0 1;g xor6 2;g xor7 3;g xor8 4;g xor9 5;out10;task sum1 0;", 6, 1,
+            3, 3, 3, 3, 3).fullFrom(5),
         Shape.drawn(952, 5, 3, 2, 1, 5, 7, 6, 2, 3, 2, 2, 6, 7),
         Shape.drawn(1418, 5, 6, 7, 3, 0, 4, 6, 3, 3, 2, 6, 3, 5).fullFrom(10),
         Shape.drawn(18203, 6, 2, 5, 5, 2, 6, 2, 3, 6, 6, 0, 6, 0),
@@ -124,7 +126,7 @@ public final class NumberEdgeTests {
         switch (number) {
             case BYTE: return new int[] {0, 127};
             case GATE: return new int[] {0, shape.gates() - 1};
-            case KIND: return !shape.hasGate(a[0]) ? new int[] {0, 7} : shape.isNot(a[0]) ? new int[2] : new int[] {1, 7};
+            case KIND: return new int[] {shape.hasGate(a[0]) && !shape.isNot(a[0]) ? 1 : 0, shape.isNot(a[0]) ? 0 : 7};
             case WAY: return shape.isNot(a[0]) ? new int[2] : new int[] {0, 1};
             case AHEAD: return new int[] {0, shape.hasGate(a[0]) ? shape.inputs + a[0] - 1 : 17};
             case OF: case TOLD: return new int[] {0, 3};

@@ -53,6 +53,7 @@ public final class StageEdgeTests {
         standsAsBits();
         witnessOfFewest();
         witnessIsWrong();
+        fewerTermsThanBefore();
         stagesChangeNothing();
         due.end();
     }
@@ -149,7 +150,7 @@ public final class StageEdgeTests {
     }
 
     private void greatestGateFirst() {
-        due.sentence("STAGE k and 1: in place of the GATE of the greatest number, of those not yet replaced, its POLYNOMIAL");
+        due.sentence("STAGE k and 1: in place of the GATE of the greatest number, of those not yet replaced");
         String text = "in 2;g and 0 1;g or 0 1;g not 2;out 2 3 4;task product 1 0;";
         stageIs(text, 0, 4, 16, 2, 8, 1, 4);
         stageIs(text, 1, 2, 8, -3, 4, 4, 0);
@@ -170,9 +171,11 @@ public final class StageEdgeTests {
 
     private void theLastStageIsTheRest() {
         due.sentence("The last STAGE (as many as GATES) is the REST");
-        for (int gates = 0; gates <= 12; gates++) {
+        for (int gates = 1; gates <= 12; gates++) {
             GateSums sums = Due.circuit("in1;" + "g not0;".repeat(gates) + "out0 " + gates + ";task sum1 0;");
-            due.is("the last one of " + gates, sums.terms(gates), gates == 0 ? 1 : 2);
+            due.are("the last one of " + gates, terms(sums, gates), -2, 1, 2, 0);
+            long[] ahead = gates == 1 ? new long[] {2, 2} : new long[] {-2, 1, 2, 0};
+            due.are("the one ahead of it", terms(sums, gates - 1), ahead);
             due.is("INPUTS alone", sums.stands(gates), 1);
             due.is("one more", sums.terms(gates + 1), BAD);
             due.is("one below 0", sums.terms(-1), BAD);
@@ -182,7 +185,7 @@ public final class StageEdgeTests {
     }
 
     private void termsAreInOrder() {
-        due.sentence("ORDER: by the greatest SIGNAL that is not in both (the set of none the least); from the greatest on");
+        due.sentence("ORDER: by the greatest SIGNAL that is not in both (the set of none the least)");
         // SIGNALS x0 x1 x2: NOR of all three has each set once.
         String text = "in 3;g or 0 1;g nor 3 2;out 4;task product 1 0;";
         stageIs(text, 2, -1, 7, 1, 6, 1, 5, -1, 4, 1, 3, -1, 2, -1, 1, 1, 0);
@@ -277,8 +280,8 @@ public final class StageEdgeTests {
         GateSums sums = drawn(2);
         long[] got = {
             sums.terms(13), sums.term(13, 0, 0), sums.term(12, -1, 0), sums.term(12, 0, 2), sums.term(10, 0, -1),
-            sums.most(3), sums.most(-1), sums.dearest(12, -1), sums.dearest(13, 0), sums.value(12, 32), sums.value(12, -1),
-            sums.stands(13),
+            sums.most(3), sums.most(-1), sums.dearest(12, -1), sums.dearest(13, 0), sums.value(12, 32),
+            sums.value(12, -1), sums.stands(13),
         };
         for (int i = 0; i < got.length; i++) {
             due.is("call " + i, got[i], BAD);
@@ -294,8 +297,8 @@ public final class StageEdgeTests {
             sums.stands(12), sums.witness(),
         };
         long[] bads = {
-            sums.terms(13), sums.term(13, 0, 1), sums.term(0, -1, 0), sums.term(0, 0, 2), sums.most(3), sums.dearest(13, 0),
-            sums.dearest(0, -1), sums.value(13, 0), sums.value(0, 64), sums.stands(-1),
+            sums.terms(13), sums.term(13, 0, 1), sums.term(0, -1, 0), sums.term(0, 0, 2), sums.most(3),
+            sums.dearest(13, 0), sums.dearest(0, -1), sums.value(13, 0), sums.value(0, 64), sums.stands(-1),
         };
         for (int i = 0; i < noes.length; i++) {
             due.is("as told, call " + i, noes[i], NO);
@@ -398,7 +401,7 @@ public final class StageEdgeTests {
     }
 
     private void mostOfTheRest() {
-        due.sentence("most: how many SIGNALS stand in a TERM of the REST at most (1; no TERMS: 0), all COEFFICIENTS (2)");
+        due.sentence("most: how many SIGNALS stand in a TERM of the REST at most (no TERMS: 0), all COEFFICIENTS");
         due.are("no TERMS", new long[] {Due.adding(2).most(1), Due.adding(2).most(2)}, 0, 0);
         due.are("the set of none", new long[] {Due.circuit(ONE).most(1), Due.circuit(ONE).most(2)}, 0, 1);
         GateSums all = Due.circuit("in6;g and0 1;g and6 2;g and7 3;g and8 4;g and9 5;out10;task product1 0;");
@@ -413,7 +416,7 @@ public final class StageEdgeTests {
     }
 
     private void dearestFirst() {
-        due.sentence("dearest: by how much its COEFFICIENT is from 0, the most first, of like ones the greater in ORDER first");
+        due.sentence("dearest: by how much it is from 0, the most first, of like ones the greater in ORDER first");
         // x4 + 2 x3 - 6 x1 - 3 x0 + x2: 6, 3, 2, then x4 ahead of x2.
         GateSums sums = Due.circuit("in 5;out 4 3;task triple 2 1;");
         int[] want = {2, 1, 8, 16, 4, NONE};
@@ -448,14 +451,24 @@ public final class StageEdgeTests {
     private void valueIsAlike() {
         due.sentence("value: what the OUTPUTS stand for less what the TASK tells, at each STAGE");
         String[] texts = {
-            "in 2;g xor 0 1;g nor 2 0;out 3 2;task triple 1 1;", "in 3;g but 2 0;g nand 3 1;g xnor 4 4;out 5 3;task square 2 1;",
-            "in 1;out 0;task sum 1 0;", "in 4;g or 3 0;g and 1 4;out 5 4 5;task product 2 2;",
+            "in 2;g xor 0 1;g nor 2 0;out 3 2;task triple 1 1;", "in 1;out 0;task sum 1 0;",
+            "in 3;g but 2 0;g nand 3 1;g xnor 4 4;out 5 3;task square 2 1;",
+            "in 4;g or 3 0;g and 1 4;out 5 4 5;task product 2 2;",
         };
         for (String text : texts) {
             GateSums sums = Due.circuit(text);
             for (int v = 0; v < 1 << sums.count(4); v++) {
                 for (int k = 0; k <= sums.count(5); k++) {
                     due.is(text + " value(" + k + ", " + v + ")", sums.value(k, v), sums.runs(v, 0) - sums.runs(v, 1));
+                }
+            }
+        }
+        for (int i = 0; i < 2; i++) {
+            GateSums sums = drawn(i);
+            for (int v = 3; v < 1 << DRAWS[i][1]; v += 4) {
+                int want = sums.runs(v, 0) - sums.runs(v, 1);
+                for (int k = 0; k <= 12; k++) {
+                    due.is("draw " + DRAWS[i][0] + " value(" + k + ", " + v + ")", sums.value(k, v), want);
                 }
             }
         }
@@ -471,14 +484,15 @@ public final class StageEdgeTests {
         due.is("no TERMS", Due.adding(1).stands(2), 0);
         due.is("the set of none", Due.circuit(ONE).stands(2), 0);
         due.is("a GATE alone", Due.circuit(ONE).stands(0), 4);
-        due.is("the last SIGNAL", Due.circuit("in6;" + "g not0;".repeat(12) + "out17;task product1 0;").stands(0), 1 << 17);
+        GateSums twelve = Due.circuit("in6;" + "g not0;".repeat(12) + "out17;task product1 0;");
+        due.is("the last SIGNAL", twelve.stands(0), 1 << 17);
         due.is("INPUTS and GATES", Due.adding(3).stands(0), 1 << 6 | 1 << 9 | 1 << 14 | 1 << 17 | 63);
         due.is("one that falls away stands no more", Due.circuit("in 2;g xor 1 1;out 2;task sum 1 0;").stands(1), 1);
         due.is("STAGE 3", Due.adding(1).stands(3), BAD);
     }
 
     private void witnessOfFewest() {
-        due.sentence("witness: the set (as v) of its TERM of fewest SIGNALS, of like ones the least in ORDER; NONE: no TERMS");
+        due.sentence("witness: its TERM of fewest SIGNALS, of like ones the least in ORDER; NONE: no TERMS");
         due.is("no TERMS", Due.adding(3).witness(), NONE);
         due.is("no GATES, no TERMS", Due.circuit("in 1;out 0;task sum 1 0;").witness(), NONE);
         due.is("the set of none", Due.circuit("in 6;g not 0;out 6;task sum 1 0;").witness(), 0);
@@ -503,6 +517,25 @@ public final class StageEdgeTests {
                 due.is("draw " + seed, fits ? 1 : 0, 1);
             }
         }
+    }
+
+    private void fewerTermsThanBefore() {
+        due.sentence("STAGES have nothing of those of a former circuit");
+        GateSums sums = Due.circuit("in 3;out 2 1;task triple 1 0;");
+        due.are("x2 + 2 x1 - 3 x0", terms(sums, 0), 1, 4, 2, 2, -3, 1);
+        Due.type(sums, "in 3;out 2 1;task product 1 0;");
+        due.is("reads", sums.reads(), 0);
+        due.are("x2 + 2 x1", terms(sums, 0), 1, 4, 2, 2);
+        due.are("dearest", new long[] {sums.dearest(0, 0), sums.dearest(0, 1), sums.dearest(0, 2)}, 2, 4, NONE);
+        due.are("value, stands", new long[] {sums.value(0, 7), sums.stands(0)}, 3, 6);
+        due.are("most, witness", new long[] {sums.most(0), sums.most(1), sums.most(2), sums.witness()}, 2, 1, 3, 2);
+        GateSums wired = Due.circuit("in 2;g xor 0 1;out 2;task product 2 0;");
+        due.are("x0 and x1 less 2 x0x1", new long[] {wired.most(0), wired.most(1), wired.witness()}, 3, 2, 1);
+        wired.wire(0, 1, 0);
+        due.are("nothing", new long[] {wired.most(0), wired.most(1), wired.most(2), wired.witness()}, 1, 0, 0, NONE);
+        due.are("nothing, too", new long[] {wired.term(1, 0, 0), wired.dearest(1, 0)}, NONE, NONE);
+        due.is("nothing for any v", wired.value(1, 3), 0);
+        due.are("nothing, either", new long[] {wired.stands(1), wired.terms(1), wired.right()}, 0, 0, 1);
     }
 
     private void stagesChangeNothing() {

@@ -6,6 +6,7 @@ public final class TextEdgeTests {
     private static final int BAD = -2, FULL = -4;
     private static final String LEAST = "in 1;out 0;task sum 1 0;";
     private static final String ORDINARY = "in 2;g xor 0 1;g not 2;out 3 2;task sum 1 1;";
+    private static final String SIX = "in6;g xor0 1;g but6 2;g nor7 3;out6 7 8 0 1;task sum3 3;";
     private static final String TWELVE = "in6;" + "g not0;".repeat(12);
 
     private final Due due = new Due();
@@ -36,6 +37,7 @@ public final class TextEdgeTests {
         onlyThirtyTwoIsBlank();
         theFirstFault();
         somethingIsMissing();
+        twoAreMissing();
         somethingIsTooMuch();
         endsTooEarly();
         wordsCutOff();
@@ -62,15 +64,16 @@ public final class TextEdgeTests {
         faultAt(place, marked.substring(0, place) + marked.substring(place + 1));
     }
 
-    /** Without a circuit, and with one; each with refusals that were counted before. */
+    /** Without a circuit, with one that was drawn (each with refusals counted before), with one that was read. */
     private void faultAt(int place, String text) {
         GateSums without = new GateSums();
         without.witness();
         without.adder(0);
         lookAtFault(without, place, text);
-        GateSums with = Due.drawn(1418, 5, 12);
-        with.terms(10);
-        lookAtFault(with, place, text);
+        GateSums drawn = Due.drawn(1418, 5, 12);
+        drawn.terms(10);
+        lookAtFault(drawn, place, text);
+        lookAtFault(Due.circuit(SIX), place, text);
     }
 
     private void lookAtFault(GateSums sums, int place, String text) {
@@ -330,7 +333,7 @@ public final class TextEdgeTests {
         due.sentence("Numbers have 1 or 2 figures; a number of three figures or more: its first byte");
         taken("in 01;g and 00 00;out 01 00;task sum 01 00;", 1);
         due.is("01 is 1", Due.circuit("in 02;out 01;task sum 01 01;").told(0, 0), 1);
-        due.is("10 is ten", Due.circuit("in 6;g not 0;g not 0;g not 0;g not 0;g not 0;out 10;task sum 1 0;").told(0, 0), 10);
+        due.is("10 is ten", Due.circuit("in6;" + "g not0;".repeat(5) + "out10;task sum1 0;").told(0, 0), 10);
         String[] far = {"000", "001", "0001", "100", "0000000000", "4294967297", "99999999999999999999"};
         for (String number : far) {
             fault("in ^" + number + ";out 0;task sum 1 0;");
@@ -419,6 +422,28 @@ public final class TextEdgeTests {
         fault("in 2;g xor 0 1;out 2;task sum 1 1 ^x;");
     }
 
+    private void twoAreMissing() {
+        due.sentence("FAULT: what stands where something is missing, though it might stand there, were more missing");
+        fault("in ^g not 0;out 0;task sum 1 0;");
+        fault("in ^out 0;task sum 1 0;");
+        fault("in ^task sum 1 0;");
+        fault("in 2;g ^out 0;task sum 1 0;");
+        fault("in 2;g ^g not 0;out 0;task sum 1 0;");
+        fault("in 2;g ^;out 0;task sum 1 0;");
+        fault("in 2;g not ^out 0;task sum 1 0;");
+        fault("in 2;g not ^g not 0;out 0;task sum 1 0;");
+        fault("in 2;g and 0 ^out 0;task sum 1 0;");
+        fault("in 2;g and 0 ^g not 0;out 0;task sum 1 0;");
+        fault("in 2;out ^task sum 1 0;");
+        fault("in 2;out 0 ^sum 1 0;");
+        fault("in 2;out 0;task^");
+        fault("in 2;out 0;task ^;");
+        fault("in 2;out 0;task sum ^;");
+        fault("^;");
+        fault("^;;;;");
+        fault("in 2;^;;;");
+    }
+
     private void somethingIsTooMuch() {
         due.sentence("FAULT: what can not stand there");
         fault("in ^in 2;g xor 0 1;out 2;task sum 1 1;");
@@ -437,7 +462,8 @@ public final class TextEdgeTests {
     private void endsTooEarly() {
         due.sentence("the TEXT's length, if it ends too early (before the ; of task, an empty one, too)");
         String[] parts = {
-            "in", "2", ";", "g", "xor", "0", "1", ";", "g", "not", "2", ";", "out", "3", "2", ";", "task", "sum", "1", "1",
+            "in", "2", ";", "g", "xor", "0", "1", ";", "g", "not", "2", ";",
+            "out", "3", "2", ";", "task", "sum", "1", "1",
         };
         String text = "";
         fault("^");
