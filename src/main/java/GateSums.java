@@ -499,8 +499,7 @@ public final class GateSums {
 
         /** GATE g is taken to be of another KIND than it is; NONE: all as they are. */
         void fill(Circuit circuit, int g, int kind) {
-            int inputs = Math.min(circuit.inputs, INPUT_COLUMNS.length);
-            for (int i = 0; i < inputs && i < rows.length; i++) {
+            for (int i = 0; i < circuit.inputs && i < INPUT_COLUMNS.length && i < rows.length; i++) {
                 rows[i] = INPUT_COLUMNS[i];
             }
             for (int i = 0; i < circuit.gates; i++) {

